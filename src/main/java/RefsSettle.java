@@ -694,7 +694,7 @@ public final class RefsSettle {
         static final int MOST_TO_SETTLE = 200, NO_RING = -1;
 
         final Outline outline = new Outline();
-        final int[][] ahead = new int[MOST_TO_SETTLE + 1][MOST_ITEMS];
+        final int[][] ahead = new int[MOST_TO_SETTLE][MOST_ITEMS];
         int kept;
         int rounds;
         int freezes;
@@ -725,24 +725,19 @@ public final class RefsSettle {
             freezes = 0;
             firstRing = 0;
             kept = 0;
-            keep(sheet);
-            atRest = goRound(sheet) == 0;
+            atRest = isAtRest(sheet);
             while (!atRest && rounds < MOST_TO_SETTLE) {
+                keep(sheet);
+                System.arraycopy(outline.pages, 0, sheet.guesses, 0, MOST_ITEMS);
                 rounds++;
                 int since = ringSince(sheet);
-                if (since == NO_RING) {
-                    keep(sheet);
-                } else {
+                if (since != NO_RING) {
                     freezeSince(sheet, since);
                     if (stopAtRing) {
                         return;
                     }
                 }
-                if (rounds < MOST_TO_SETTLE) {
-                    atRest = goRound(sheet) == 0;
-                } else {
-                    atRest = isAtRest(sheet);
-                }
+                atRest = isAtRest(sheet);
             }
         }
 
@@ -772,7 +767,6 @@ public final class RefsSettle {
                 firstRing = kept - since;
             }
             kept = 0;
-            keep(sheet);
         }
 
         /** Words and breaks are as wide by all GUESSES, so that they stay as they are. */
