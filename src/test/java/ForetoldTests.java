@@ -13,8 +13,11 @@ public final class ForetoldTests {
         ends();
         moves();
         movesOfWide();
+        movesOfPageOrLine();
         room();
+        roomIsBegunAnew();
         restless();
+        restlessEdges();
         fitsKinds();
         fitsNumbers();
         fitsFirsts();
@@ -97,6 +100,9 @@ public final class ForetoldTests {
         for (int i = 0; i < 3; i++) {
             Check.due("20: " + i, x.ends(i), due[i]);
         }
+        x.number(0, 2);
+        x.number(2, 2);
+        Check.due("20: as it is now", x.ends(2), 9);
         Check.due("20: -1", x.ends(-1), BAD);
         Check.due("20: 3", x.ends(3), BAD);
     }
@@ -127,6 +133,12 @@ public final class ForetoldTests {
         Check.due("21: a FROZEN one, 5 wide then", x.moves(1), 4);
     }
 
+    private static void movesOfPageOrLine() {
+        Check.due("21: another LINE", Check.with("w4,5,1;t2;t2;t4;").moves(0), 6);
+        Check.due("21: another PAGE", Check.with("w4,1,1;t2;t2;t4;").moves(0), 6);
+        Check.due("21: another COLUMN", Check.with("w9,1,1;t2;t2;t4;").moves(0), 6);
+    }
+
     private static void room() {
         Check.due("22: no SHEET", new RefsSettle().room(0), BAD);
         RefsSettle x = Check.with(RING);
@@ -143,6 +155,38 @@ public final class ForetoldTests {
         x.rule(0, 4);
         x.number(3, 20);
         Check.due("22: not less than it is", x.room(3), 20);
+    }
+
+    private static void roomIsBegunAnew() {
+        RefsSettle x = Check.with(RING);
+        x.settle();
+        Check.due("22: FROZEN is not looked at", x.room(2), 2);
+        x.number(2, 3);
+        Check.due("22: nor are GUESSES", x.room(2), 20);
+        x.round();
+        Check.due("22: behind a ROUND", x.room(2), 20);
+        // On page 88 the Roman one has 8 signs, which leave 11 in its LINE.
+        x = Check.with("w19,1,87;k;m3;t11;k;t1;");
+        Check.due("22: by 12 and more it ends a PAGE further on", x.room(2), 11);
+    }
+
+    private static void restlessEdges() {
+        // On page 88 the Roman one has 8 signs and moves the break on to 89; by 89 it has 6.
+        RefsSettle x = Check.with("w19,1,5;k;m3;t12;k;");
+        Check.due("23: the last FIRST", x.restless(), 87);
+        x.rule(2, 87);
+        x.settle();
+        Check.due("23: FROZEN", x.count(5), 2);
+        Check.due("23: begun anew", x.restless(), 87);
+        x.number(2, 11);
+        Check.due("23: no more", x.restless(), NONE);
+        x = Check.with("w4,1,40;m9;m10;m0;r9;m11;m4;m6;m3;m2;m6;m2;m1;");
+        Check.due("23: the first FIRST", x.restless(), 1);
+        x.rule(2, 1);
+        x.anew();
+        x.settle();
+        Check.due("23: begun anew", x.restless(), 1);
+        Check.due("33: ITEM 0 is FROZEN", x.count(5) & 1, x.item(0, 2) > 0 ? 1 : 0);
     }
 
     private static void restless() {
@@ -295,6 +339,11 @@ public final class ForetoldTests {
             Check.due("26: BAD", x.drawn(b[0], b[1], b[2]), BAD);
         }
         Check.due("26: all of 60", x.drawn(60, 999999, 0) >= 0 ? 1 : 0, 1);
+        x = Check.with("w4,1,1;t1;");
+        x.rule(2, 5);
+        Check.due("26: one ITEM", x.drawn(3, 1, 0), 1);
+        Check.due("26: its PAGE by GUESS", x.drawn(3, 1, 1), 5);
+        Check.due("26: its GUESS yet", x.drawn(0, 1, 1), 1);
         x = Check.with("w4,1,5;k;");
         Check.due("26: a break stays", x.drawn(60, 7, 0), 0);
         Check.due("26: its PAGE", x.drawn(60, 7, 1), 5);

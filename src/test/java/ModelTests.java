@@ -18,6 +18,14 @@ public final class ModelTests {
     private static final TreeMap<String, Method> DUE = methods(Model.class);
     private static final TreeMap<String, Integer> SEEN = new TreeMap<>();
 
+    /** Sheets found by a search for many ROUNDS, many FREEZES and long RINGS. */
+    private static final String[] HARD = {
+        "w4,1,4;m11;m6;m2;m4;m7;m2;m8;m9;m10;m1;m11;m3;", "w4,1,2;r2;m8;f10;m3;m7;m7;m10;m9;r10;r8;m11;r9;",
+        "w6,1,47;m4;m5;m7;f5;m11;m7;m6;m10;m8;m8;m9;m9;", "w5,1,5;m7;m11;m10;r9;m5;m4;m6;m9;m3;m2;m2;m8;",
+        "w5,1,1;m10;m10;m8;m3;m2;m3;t3;m4;m11;m5;m11;m2;", "w4,1,1;m9;m10;m0;r9;m11;m4;m6;m3;m2;m6;m2;m1;",
+        "w6,1,8;f11;m11;m8;m6;m7;m6;m7;m9;m8;m7;m1;m1;", "w6,1,13;m9;m7;m8;m11;m2;m8;f0;m9;m9;m11;r2;m5;",
+        "w11,1,34;m8;m1;t5;m6;m9;m3;t2;m10;m7;m10;m2;m0;", "w5,1,5;t2;m6;m2;m8;m8;m7;m7;m3;t3;m5;"};
+
     private final Random random;
     private final RefsSettle real = new RefsSettle();
     private final Model model = new Model();
@@ -34,10 +42,13 @@ public final class ModelTests {
         for (int run = from; run < from + runs && Check.isClean(); run++) {
             new ModelTests(run).go(run);
         }
+        for (int run = 0; run < 3000 && Check.isClean(); run++) {
+            new ModelTests(run).settleHardOnes(run);
+        }
         System.out.println(SEEN);
         for (String must : new String[] {"ring 2", "freezes 1", "lies", "undone", "chance between", "fault 1",
             "fault 2", "fault 3", "fault 4", "finding 1", "finding 2", "finding 3", "finding 4", "finding 5",
-            "full", "room between", "restless", "fits"}) {
+            "full", "room between", "restless", "fits", "freezes 2", "freezes 3"}) {
             Check.due("runs that saw " + must, SEEN.containsKey(must) ? 1 : 0, 1);
         }
         Check.end();
@@ -70,6 +81,31 @@ public final class ModelTests {
         }
         if (!Check.isClean()) {
             System.out.println("run " + run + ":" + told);
+        }
+    }
+
+    /** TO SETTLE of hard sheets, as they are and with a little changed, from GUESSES of all sorts. */
+    private void settleHardOnes(int run) throws Exception {
+        String text = HARD[run % HARD.length];
+        for (int i = 0; i < text.length(); i++) {
+            call("feed", text.charAt(i));
+        }
+        call("sheet");
+        for (int i = 0; i < 30 && Check.isClean(); i++) {
+            for (int what = 0; what <= 5; what++) {
+                call("settled", what);
+            }
+            String[] acts = {"number", "number", "number", "rule", "round", "anew", "settle", "undo"};
+            String act = acts[random.nextInt(acts.length)];
+            call(act, arguments(act));
+            if (i % 10 == 5) {
+                call("restless");
+                call("room", place());
+                call("chance", upTo(10), upTo(1));
+            }
+        }
+        if (!Check.isClean()) {
+            System.out.println("hard run " + run + ":" + told);
         }
     }
 

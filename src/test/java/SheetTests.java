@@ -10,9 +10,11 @@ public final class SheetTests {
         feed();
         sheet();
         sheetReplaces();
+        sheetEndsWhereTheTapeDoes();
         fault();
         round();
         roundsAreFull();
+        roundsAreFullBySettling();
         settle();
         number();
         rule();
@@ -74,6 +76,8 @@ public final class SheetTests {
         bad("w3,1,1;t1;", 2, 1);
         bad("w21,1,1;t1;", 2, 1);
         bad("w004,1,1;t1;", 1, 1);
+        bad("w0004,1,1;t1;", 1, 1);
+        bad("w00000004,1,1;t1;", 1, 1);
         bad("w4;1,1;t1;", 1, 2);
         bad("w4,0,1;t1;", 2, 3);
         bad("w4,6,1;t1;", 2, 3);
@@ -126,6 +130,36 @@ public final class SheetTests {
         Check.due("7: an ITEM of the one before", x.item(2, 0), BAD);
     }
 
+    /** Bytes of a longer tape before are no longer there. */
+    private static void sheetEndsWhereTheTapeDoes() {
+        String text = "w14,5,17;t15;r11;m10;f1;k;t20;k;k;k;k;k;k;";
+        for (int length = 0; length < text.length(); length++) {
+            RefsSettle x = new RefsSettle();
+            Check.due("7: the whole", Check.read(x, text), 12);
+            Check.due("7: up to " + length, Check.read(x, text.substring(0, length)), cutAnswer(text, length));
+        }
+        String full = "w4,1,1;t1;t1;t1;t1;t1;t1;t1;t1;t1;t1;t1;";
+        RefsSettle x = new RefsSettle();
+        for (int i = 0; i < 80; i++) {
+            x.feed(i < full.length() ? full.charAt(i) : '0');
+        }
+        Check.due("7: 80 bytes", x.sheet(), -1000100 - full.length());
+        for (int i = 0; i < 79; i++) {
+            x.feed(i == 0 ? 'w' : '1');
+        }
+        x.feed('1');
+        Check.due("7: figures up to the end of 80 bytes", x.sheet(), -1000101);
+    }
+
+    /** FAULT 1 or 4 at the end, but for one ITEM that is whole, and a WIDTH that is cut to 1. */
+    private static int cutAnswer(String text, int length) {
+        String cut = text.substring(0, length);
+        if (cut.equals("w14,5,17;t15;")) {
+            return 1;
+        }
+        return -1000100 - (cut.equals("w1") ? 1 : length);
+    }
+
     private static void fault() {
         RefsSettle x = new RefsSettle();
         Check.due("8: at first", x.fault(), 0);
@@ -175,6 +209,26 @@ public final class SheetTests {
         Check.due("9: the last one", x.count(6), 9999);
         Check.due("9: one more", x.round(), FULL);
         Check.due("9: FULL changes nothing", x.count(6), 9999);
+    }
+
+    /** Within 512 calls 9999 ROUNDS are come to only by a SHEET that takes many of them to settle. */
+    private static void roundsAreFullBySettling() {
+        RefsSettle x = Check.with("w4,1,2;r2;m8;f10;m3;m7;m7;m10;m9;r10;r8;m11;r9;");
+        for (int i = 1; i <= 185; i++) {
+            Check.due("10: 54 ROUNDS", x.settle(), 54);
+            Check.due("10: ROUNDS", x.count(6), 54 * i);
+            x.anew();
+        }
+        String before = shown(x);
+        Check.due("10: above 9999", x.settle(), FULL);
+        Check.same("10: FULL changes nothing", shown(x), before);
+        for (int i = 1; i <= 9; i++) {
+            x.round();
+        }
+        Check.due("9: 9999", x.count(6), 9999);
+        Check.due("9: FULL", x.round(), FULL);
+        x.undo();
+        Check.due("14: ROUNDS are undone", x.count(6), 9998);
     }
 
     private static void settle() {
@@ -241,6 +295,15 @@ public final class SheetTests {
         Check.due("12: GUESS stays", x.item(2, 1), 10);
         Check.due("12: FROZEN stays", x.item(1, 2), 4);
         Check.due("12: it STANDS by FIRST", x.item(0, 4), 1);
+        x = Check.with("w4,1,9;t1;r0;f0;");
+        x.rule(2, 10);
+        Check.same("12: it PRINTS by GUESS", Check.printed(x, 1), "9");
+        Check.due("12: it is WIDE by GUESS", x.item(1, 3) * 10 + x.item(2, 3), 12);
+        Check.due("12: all that changed", x.settle(), 2);
+        Check.same("12: it PRINTS by GUESS", Check.printed(x, 2), "10f");
+        x = Check.with("w4,1,1;t1;");
+        x.rule(2, 5);
+        Check.due("12: one ITEM is not SETTLED by it", x.settle(), 1);
     }
 
     private static void anew() {
