@@ -13,8 +13,6 @@ public final class SheetTests {
         sheetEndsWhereTheTapeDoes();
         fault();
         round();
-        roundsAreFull();
-        roundsAreFullBySettling();
         settle();
         number();
         rule();
@@ -192,45 +190,6 @@ public final class SheetTests {
         Check.due("9: an ACT all the same", x.count(7), 1);
     }
 
-    /** So many calls are more than the document promises: what is due is told all the same. */
-    private static void roundsAreFull() {
-        RefsSettle x = Check.with(RING);
-        for (int i = 0; i < 9996; i++) {
-            x.round();
-        }
-        Check.due("10: up to 9999", x.settle(), 3);
-        x.undo();
-        x.round();
-        x.anew();
-        Check.due("10: 10000", x.settle(), FULL);
-        Check.due("10: FULL changes nothing", x.count(5) + x.count(6), 9997);
-        x.round();
-        x.round();
-        Check.due("9: the last one", x.count(6), 9999);
-        Check.due("9: one more", x.round(), FULL);
-        Check.due("9: FULL changes nothing", x.count(6), 9999);
-    }
-
-    /** Within 512 calls 9999 ROUNDS are come to only by a SHEET that takes many of them to settle. */
-    private static void roundsAreFullBySettling() {
-        RefsSettle x = Check.with("w4,1,2;r2;m8;f10;m3;m7;m7;m10;m9;r10;r8;m11;r9;");
-        for (int i = 1; i <= 185; i++) {
-            Check.due("10: 54 ROUNDS", x.settle(), 54);
-            Check.due("10: ROUNDS", x.count(6), 54 * i);
-            x.anew();
-        }
-        String before = shown(x);
-        Check.due("10: above 9999", x.settle(), FULL);
-        Check.same("10: FULL changes nothing", shown(x), before);
-        for (int i = 1; i <= 9; i++) {
-            x.round();
-        }
-        Check.due("9: 9999", x.count(6), 9999);
-        Check.due("9: FULL", x.round(), FULL);
-        x.undo();
-        Check.due("14: ROUNDS are undone", x.count(6), 9998);
-    }
-
     private static void settle() {
         Check.due("10: no SHEET", new RefsSettle().settle(), STATE);
         RefsSettle x = Check.with(RING);
@@ -345,21 +304,21 @@ public final class SheetTests {
     private static void undoOfEach() {
         RefsSettle x = Check.with(RING);
         String[] before = new String[6];
-        before[0] = shown(x);
+        before[0] = Whole.sheet(x);
         x.round();
-        before[1] = shown(x);
+        before[1] = Whole.sheet(x);
         x.settle();
-        before[2] = shown(x);
+        before[2] = Whole.sheet(x);
         x.number(0, 3);
-        before[3] = shown(x);
+        before[3] = Whole.sheet(x);
         x.rule(1, 2);
-        before[4] = shown(x);
+        before[4] = Whole.sheet(x);
         x.anew();
-        before[5] = shown(x);
+        before[5] = Whole.sheet(x);
         x.settle();
         for (int i = 5; i >= 0; i--) {
             Check.due("14: left", x.undo(), i);
-            Check.same("14: undone " + i, shown(x), before[i]);
+            Check.same("14: undone " + i, Whole.sheet(x), before[i]);
         }
     }
 
@@ -432,10 +391,8 @@ public final class SheetTests {
 
     private static void print() {
         Check.due("16: no SHEET", new RefsSettle().print(0, 0), BAD);
-        RefsSettle x = Check.with("w20,5,1;m11;r11;f11;k;k;k;k;k;k;k;k;k;");
         for (int first = 1; first <= 87; first++) {
-            x.rule(2, first);
-            x.anew();
+            RefsSettle x = Check.with("w20,5," + first + ";m11;r11;f11;k;k;k;k;k;k;k;k;k;");
             for (int times = 0; times < 2; times++) {
                 int page = first + 8 * times;
                 Check.same("16: Roman " + page, Check.printed(x, 0), roman(page));
@@ -448,7 +405,7 @@ public final class SheetTests {
             }
         }
         Check.same("16: the longest", roman(88), "lxxxviii");
-        x = Check.with(KINDS);
+        RefsSettle x = Check.with(KINDS);
         Check.due("16: a word", x.print(0, 0), BAD);
         Check.due("16: a break", x.print(3, 0), BAD);
         Check.due("16: ITEM 9", x.print(9, 0), BAD);
