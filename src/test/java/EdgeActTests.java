@@ -115,6 +115,21 @@ public final class EdgeActTests extends Edges {
             "sheet 6 4 1 8 34 3 1 | 4 1 8 0 | 2 2 9 4 | 4 1 10 0 | 5 0 10 0 | 1 0 11 0 | 3 4 11 3");
     }
 
+    static void promise10_theFirstAndTheLastItemAreFrozenToo() {
+        RefsSettle x = Check.with("w4,1,8;m1;t1;k;k;k;k;k;k;k;k;k;m1;");
+        Check.due("ROUNDS", x.settle(), 3);
+        Check.due("ITEM 0", x.item(0, 2), 4);
+        Check.due("ITEM 11", x.item(11, 2), 4);
+        Check.due("no others", x.count(5), 2049);
+    }
+
+    static void promise10_oneItemAlone() {
+        RefsSettle x = Check.with("w4,1,1;t1;");
+        x.rule(2, 5);
+        Check.due("its GUESS is another", x.settle(), 1);
+        Check.due("GUESS", x.item(0, 1), 5);
+    }
+
     /** A RING is found only among the ROUNDS of one TO SETTLE: it takes two more though one was done. */
     static void promise10_roundsBeforeAreNotLookedAt() {
         RefsSettle x = Check.with(RING);

@@ -102,8 +102,7 @@ public final class EdgeAskedTests extends Edges {
     }
 
     static void promise32_noneWhereThereIsNone() {
-        refused("before an ask", NONE, x -> x.trace(6));
-        refusedBare("new", NONE, x -> x.trace(0));
+        refusedBare("before an ask", NONE, x -> x.trace(0));
         int[] none = {-1, 6, 15, 16, 17, LEAST, MOST};
         for (int i : none) {
             refused("place " + i, NONE, x -> x.trace(i));
@@ -152,6 +151,14 @@ public final class EdgeAskedTests extends Edges {
             x.rule(1, 5);
             Check.due("ACTS", x.count(7), Math.min(24, i));
         }
+    }
+
+    static void promise33_frozenHasABitForEachItem() {
+        RefsSettle x = Check.with("w4,1,8;m1;t1;k;k;k;k;k;k;k;k;k;m1;");
+        x.settle();
+        Check.due("the first and the last", x.count(5), 1 + 2048);
+        x.anew();
+        Check.due("none", x.count(5), 0);
     }
 
     static void promise34_noneAtFirst() {

@@ -13,8 +13,26 @@ public final class EdgeForetoldTests extends Edges {
         return x;
     }
 
+    /** The answer, that nothing changes by it, and that others ahead do not change it. */
     private static void foretold(String what, long due, ToLongFunction<RefsSettle> call) {
         leaves(EdgeForetoldTests::started, what, due, 3, call);
+        for (int last = 0; last < 5; last++) {
+            RefsSettle x = started();
+            foretellOthers(x, last);
+            Check.due(what + ", behind others, the last of them " + last, call.applyAsLong(x), due);
+        }
+    }
+
+    private static void foretellOthers(RefsSettle x, int last) {
+        for (int i = 1; i <= 5; i++) {
+            switch ((last + i) % 5) {
+                case 0 -> x.drawn(9, 5, 0);
+                case 1 -> x.restless();
+                case 2 -> x.room(2);
+                case 3 -> x.chance(5, 0);
+                default -> x.fits(1, 0, 0, 1, 0);
+            }
+        }
     }
 
     private static void refusedBare(String what, long due, ToLongFunction<RefsSettle> call) {
@@ -93,6 +111,14 @@ public final class EdgeForetoldTests extends Edges {
         int[] due = {1, 0, 0, 0, 2, 1};
         for (int what = 0; what <= 5; what++) {
             Check.due("what " + what, x.settled(what), due[what]);
+        }
+    }
+
+    static void promise19_theRingOfTheFirstFreeze() {
+        RefsSettle x = Check.with("w5,1,7;m2;m5;m1;m1;m4;m5;");
+        int[] due = {8, 2, 3, 63, 11, 1};
+        for (int what = 0; what <= 5; what++) {
+            Check.due("a RING of three, then one of two, what " + what, x.settled(what), due[what]);
         }
     }
 
@@ -191,6 +217,15 @@ public final class EdgeForetoldTests extends Edges {
         foretold("by iii it goes on, by iv it comes back", 3, x -> x.restless());
         RefsSettle x = Check.with("w4,1,40;m9;m10;m0;r9;m11;m4;m6;m3;m2;m6;m2;m1;");
         Check.due("the first", x.restless(), 1);
+    }
+
+    /** By 0, which is no FIRST, t1 would go from 3 to 4 and back; by 4 it goes from 7 to 8, to 9 and back. */
+    static void promise23_firstsBeginWith1() {
+        Check.due("4", Check.with("w4,1,1;k;k;k;t1;m5;t1;").restless(), 4);
+    }
+
+    static void promise23_begunAnew() {
+        leaves(Edges::rich, "as if it were not FROZEN", 3, 3, x -> x.restless());
     }
 
     /** On page 88 the Roman one has 8 signs and moves the break on to 89; by 89 it has 6. */
@@ -340,6 +375,24 @@ public final class EdgeForetoldTests extends Edges {
         may("w4,1,8;k;", 62 - 16, (1 << 21) - 1);
     }
 
+    /** As a Roman one ITEM 1 goes on, by viii; as any other there is room for it. */
+    static void promise24_kindsThatFit() {
+        RefsSettle x = Check.with(RING);
+        fill(x, 0, 0, 8, 9, 10);
+        Check.due("8", x.fits(1, 0, 0, 1, 0), 2 + 8 + 16 + 32);
+        Check.due("9", x.fits(1, 0, 1, 1, 0), 4);
+        Check.due("10", x.fits(1, 0, 2, 1, 0), 0);
+    }
+
+    /** Behind t1 and x there is room for 2 more in a LINE of 4. */
+    static void promise24_numbersThatFit() {
+        RefsSettle x = Check.with(RING);
+        fill(x, 0, 0, 10, 8, 10);
+        Check.due("1 and 2", x.fits(2, 0, 0, 3, 1), 2 + 4);
+        fill(x, 0, 0, 10, 9);
+        Check.due("3 to 20", x.fits(2, 0, 0, 2, 1), (1 << 21) - 8);
+    }
+
     static void promise24_firstsAre1To87() {
         RefsSettle x = started();
         fill(x, 0, 1, 0, 1, 87, 88, -1, 264);
@@ -394,6 +447,11 @@ public final class EdgeForetoldTests extends Edges {
         RefsSettle x = Check.with(text);
         Check.due("above, of " + text, x.chance(c, 0), above);
         Check.due("below, of " + text, x.chance(c, 1), below);
+    }
+
+    static void promise25_begunAnew() {
+        leaves(Edges::rich, "above, as if it were not FROZEN", 3, 3, x -> x.chance(3, 0));
+        leaves(Edges::rich, "below", 10, 3, x -> x.chance(3, 1));
     }
 
     static void promise25_noneIs0By1() {
