@@ -1,7 +1,7 @@
 /** Boundary cases of promises 9 to 16: ACTS, where an ITEM STANDS, and what is printed. */
 public final class EdgeActTests extends Edges {
     public static void main(String[] args) {
-        runAll(EdgeActTests.class);
+        runAll(EdgeActTests.class, args);
     }
 
     /** LONG with so many ROUNDS, begun anew, so that TO SETTLE takes 54 more of them. */

@@ -7,7 +7,7 @@ public final class EdgeAskedTests extends Edges {
     private static final int[] IS = {0, 1 + 2, 1 + 2 + 4, 1 + 2 + 8, 1 + 16, 1 + 16 + 32};
 
     public static void main(String[] args) {
-        runAll(EdgeAskedTests.class);
+        runAll(EdgeAskedTests.class, args);
     }
 
     private static void refusedBare(String what, long due, ToLongFunction<RefsSettle> call) {

@@ -3,7 +3,7 @@ import java.util.function.ToLongFunction;
 /** Boundary cases of promises 17 to 28: what is foretold, and IMAGES. */
 public final class EdgeForetoldTests extends Edges {
     public static void main(String[] args) {
-        runAll(EdgeForetoldTests.class);
+        runAll(EdgeForetoldTests.class, args);
     }
 
     /** As rich(), begun anew: t2 m2 t1 k r0 f4 in LINES of 5, from PAGE 8 on; a RING of two would come. */

@@ -1,7 +1,7 @@
 /** Boundary cases of promises 1 to 5: a new object, and ROWS. */
 public final class EdgeRowTests extends Edges {
     public static void main(String[] args) {
-        runAll(EdgeRowTests.class);
+        runAll(EdgeRowTests.class, args);
     }
 
     static void promise01_nothingIsThereAtFirst() {

@@ -3,7 +3,7 @@ public final class EdgeTapeTests extends Edges {
     private static final String TWELVE = "w4,1,1;k;k;k;k;k;k;k;k;k;k;k;k;";
 
     public static void main(String[] args) {
-        runAll(EdgeTapeTests.class);
+        runAll(EdgeTapeTests.class, args);
     }
 
     private static void good(String text, int items) {
